@@ -8,8 +8,8 @@ import java.util.List;
  * beginning, so that every run of this test makes the same ones.
  */
 public final class OracleTest {
-    private static final int CALLS = 512;
-    private static final int RUNS = 400;
+    private static final int CHANGES = 320;
+    private static final int RUNS = 240;
     private static int wrong = 0;
     private static long seed = 20261115L;
 
@@ -228,7 +228,7 @@ public final class OracleTest {
         return below(usual + 4) - 2;
     }
 
-    private static void whole(StrandMapper x, Model m) {
+    private static void whole(Subject x, Model m) {
         due("length(false)", m, x.length(false), m.genome.length());
         due("length(true)", m, x.length(true), m.read.length());
         due("hits()", m, x.hits(), m.hits.size());
@@ -244,7 +244,7 @@ public final class OracleTest {
         }
     }
 
-    private static void change(StrandMapper x, Model m, int kinds) {
+    private static void change(Subject x, Model m, int kinds) {
         int which = below(60);
         if (which == 0) {
             x.clear();
@@ -264,7 +264,7 @@ public final class OracleTest {
         }
     }
 
-    private static void ask(StrandMapper x, Model m) {
+    private static void ask(Subject x, Model m) {
         int i = someNumber(m.genome.length());
         int b = someNumber(6);
         due("row(" + i + ")", m, x.row(i), m.row(i));
@@ -275,7 +275,7 @@ public final class OracleTest {
     }
 
     private static void run(int number) {
-        StrandMapper x = new StrandMapper();
+        Subject x = new Subject();
         Model m = new Model();
         int kinds = 1 + number % 4;
         int start = number % 3 == 0 ? 0 : 10 + below(90);
@@ -283,7 +283,7 @@ public final class OracleTest {
             int b = someBase(kinds);
             due("base(" + b + ")", m, bit(x.base(b)), bit(m.base(b)));
         }
-        for (int i = start; i < CALLS; i++) {
+        for (int i = start; i < CHANGES; i++) {
             if (below(4) != 0) {
                 change(x, m, kinds);
                 continue;
