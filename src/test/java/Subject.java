@@ -18,6 +18,88 @@ final class Subject {
     private StrandMapper mapper = new StrandMapper();
     private int calls = 0;
 
+    static Subject of(String genome, String read) {
+        Subject x = new Subject();
+        x.addBases(genome);
+        x.addRead(read);
+        return x;
+    }
+
+    void addBases(String letters) {
+        for (char c : letters.toCharArray()) {
+            Check.due("base(" + c + ")", base("ACGTN".indexOf(c)), true);
+        }
+    }
+
+    void addRead(String letters) {
+        for (char c : letters.toCharArray()) {
+            Check.due("read(" + c + ")", read("ACGT".indexOf(c)), true);
+        }
+    }
+
+    void newGenome(String letters) {
+        clear();
+        addBases(letters);
+    }
+
+    void newRead(String letters) {
+        wipe();
+        addRead(letters);
+    }
+
+    /** The place of every row. */
+    String rows() {
+        StringBuilder out = new StringBuilder();
+        for (int i = 0; i <= length(false); i++) {
+            out.append(row(i)).append(' ');
+        }
+        return out.toString().trim();
+    }
+
+    /** The symbol before every row. */
+    String lasts() {
+        StringBuilder out = new StringBuilder();
+        for (int i = 0; i <= length(false); i++) {
+            out.append(last(i));
+        }
+        return out.toString();
+    }
+
+    /** Place, strand, mismatches and primary of every hit. */
+    String hitList() {
+        StringBuilder out = new StringBuilder();
+        for (int i = 0; i < hits(); i++) {
+            out.append(hit(i, 0)).append(':').append(hit(i, 1)).append(':');
+            out.append(hit(i, 2)).append(':').append(hit(i, 3)).append(' ');
+        }
+        return out.toString().trim();
+    }
+
+    String text() {
+        StringBuilder out = new StringBuilder();
+        int size = size();
+        for (int k = 0; k < size; k++) {
+            out.append((char) at(k));
+        }
+        return out.toString();
+    }
+
+    /** The field of that number, from 1 on, in that line of the map, from 0 on. */
+    String field(int line, int number) {
+        String[] lines = text().split("\n", -1);
+        String[] fields = line < lines.length ? lines[line].split("\t", -1) : new String[0];
+        return number <= fields.length ? fields[number - 1] : "nothing";
+    }
+
+    String hitsAndMap() {
+        return hitList() + "|" + text() + "|" + mappings();
+    }
+
+    String everything() {
+        return length(false) + "|" + length(true) + "|" + rows() + "|" + lasts() + "|"
+                + first() + "|" + count() + "|" + hitsAndMap();
+    }
+
     private int make(int kind, int argument) {
         switch (kind) {
             case BASE:
