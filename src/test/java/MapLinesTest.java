@@ -177,6 +177,18 @@ public final class MapLinesTest {
         }
     }
 
+    private static void qualityStandsBeforeTheLength() {
+        Check.sentence("the QUALITY; the length of the read and M");
+        dueColumn(QUALITY, "ACC", "AC", 0, "60");
+        dueColumn(QUALITY + 1, "ACC", "AC", 0, "2M");
+    }
+
+    private static void differencesEndTheLine() {
+        Check.sentence("MD:Z: and the DIFFERENCES.");
+        Check.due("the end of the map", mapped("ACG", "ATG", 1).text().endsWith("\tMD:Z:1C1\n"), true);
+        dueColumn(DIFFERENCES, "AA", "A", 0, "MD:Z:1 MD:Z:1");
+    }
+
     private static void qualityOfOthersIs0() {
         Check.sentence("QUALITY: for a hit that is not the primary one 0");
         dueColumn(QUALITY, "AAACAAG", "AAA", 1, "40 0 0 0 0");
@@ -347,6 +359,8 @@ public final class MapLinesTest {
         threeFieldsAreAlwaysTheSame();
         basesOfThePrimaryHit();
         mismatchesOfTheHit();
+        qualityStandsBeforeTheLength();
+        differencesEndTheLine();
         qualityOfOthersIs0();
         qualityOfTheOnlyHitIs60();
         qualityOfTheBestHitIs40();

@@ -1,4 +1,4 @@
-/** Refused calls: that they change nothing, and which refusal is the answer. */
+/** Refused calls: that they change nothing, which refusal is the answer, and the constants. */
 public final class RefusalsTest {
     private static final int[] FAR = {Integer.MIN_VALUE, -1000, -1, 1000, Integer.MAX_VALUE};
     private static final String NOTHING = "A call that is refused changes nothing";
@@ -143,15 +143,39 @@ public final class RefusalsTest {
         Check.due("hit(3, 4)", loaded().hit(3, 4), -2);
     }
 
-    private static void constantsHaveTheirNumbers() {
-        Check.sentence("NONE = -1");
+    private static void noneIsForWhatIsNotThere() {
+        Check.sentence("`NONE = -1`: There is none.");
         Check.due("NONE", StrandMapper.NONE, -1);
-        Check.sentence("BAD = -2");
+        Subject x = loaded();
+        Check.due("row(11) of 10 bases", x.row(11), StrandMapper.NONE);
+        Check.due("last(11) of 10 bases", x.last(11), StrandMapper.NONE);
+        Check.due("first() of GTA", x.first(), StrandMapper.NONE);
+        Check.due("at(size())", x.at(x.size()), StrandMapper.NONE);
+    }
+
+    private static void badIsForWrongNumbers() {
+        Check.sentence("`BAD = -2`: A number is not as said.");
         Check.due("BAD", StrandMapper.BAD, -2);
-        Check.sentence("EMPTY = -3");
+        Subject x = loaded();
+        Check.due("rank(6, 0)", x.rank(6, 0), StrandMapper.BAD);
+        Check.due("rank(0, 12) of 10 bases", x.rank(0, 12), StrandMapper.BAD);
+        Check.due("map(5)", x.map(5), StrandMapper.BAD);
+        Check.due("hit(3, 0) of 3 hits", x.hit(3, 0), StrandMapper.BAD);
+        Check.due("hit(0, 4)", x.hit(0, 4), StrandMapper.BAD);
+    }
+
+    private static void emptyIsForNoRead() {
+        Check.sentence("`EMPTY = -3`: The read is empty.");
         Check.due("EMPTY", StrandMapper.EMPTY, -3);
-        Check.sentence("OVERFLOW = -4");
+        Check.due("map(0) of no read", withoutRead().map(0), StrandMapper.EMPTY);
+        Check.due("map(0) of no genome and no read", new Subject().map(0), StrandMapper.EMPTY);
+        Check.due("map(0) of a read without a genome", Subject.of("", "A").map(0), 0);
+    }
+
+    private static void overflowIsForLongMaps() {
+        Check.sentence("`OVERFLOW = -4`: The map would have more than 1500 characters.");
         Check.due("OVERFLOW", StrandMapper.OVERFLOW, -4);
+        Check.due("map(0) with too many hits", tooManyHits().map(0), StrandMapper.OVERFLOW);
     }
 
     public static void main(String[] args) {
@@ -161,7 +185,10 @@ public final class RefusalsTest {
         overflowLeavesTheMappingBefore();
         refusedQuestionsChangeNothing();
         theFirstNamedRefusalIsTheAnswer();
-        constantsHaveTheirNumbers();
+        noneIsForWhatIsNotThere();
+        badIsForWrongNumbers();
+        emptyIsForNoRead();
+        overflowIsForLongMaps();
         Check.end();
     }
 }
